@@ -819,6 +819,9 @@ public final class PromiseTests {
         due("advice(), without a greater one", x.advice(), 1);
         x.doubt();
         due("advice(), behind the round", x.advice(), STATE);
+        CupClaims y = dealt(5, false, "11111/66666/22222/33333/44444");
+        y.claim(25, 6);
+        due("advice(), without a greater one, of one that may be right", y.advice(), 1);
         exactIsBest();
     }
 
@@ -893,6 +896,24 @@ public final class PromiseTests {
         x.undo();
         due("value(false), undone", x.value(false), 0);
         due("value(true), undone", x.value(true), 1);
+        dueValuesInTurn("5/9", 9, "5", 5);
+        dueValuesInTurn("9 5", 5, "9", 9);
+        dueValuesInTurn("1 2/3 0", 3, "1 2", 1);
+    }
+
+    /** The second matrix is a corner of the first one. */
+    private static void dueValuesInTurn(String text, long value, String corner, long valueOfCorner) {
+        CupClaims x = withMatrix(text);
+        for (int i = 0; i < 2; i++) {
+            write(x, corner);
+            x.setMatrix();
+            due("value(false) of " + corner + " behind " + text, x.value(false), valueOfCorner);
+            write(x, text);
+            x.setMatrix();
+            due("value(false) of " + text + " behind " + corner, x.value(false), value);
+        }
+        x.undo();
+        due("value(false) of " + corner + ", undone", x.value(false), valueOfCorner);
     }
 
     private static void dueShares(String text, boolean column, long... want) {
