@@ -368,6 +368,10 @@ public final class ChanceBoundsTests extends Bounds {
         dueAdvice(false, "3/66", "claim(1, 5)", 0);
         // 0, 0, 1
         dueAdvice(false, "3/666", "claim(1, 6)", 0);
+        // of nine fives 0.8095 and 0.0987, of nine sixes, of which four are known, 0.8485
+        dueAdvice(true, "22222/66663/22222/33333/44444", "claim(9, 5)", 0);
+        // of ten fives 0.9081 and 0.0543, of ten sixes 0.7028
+        dueAdvice(true, "22222/66663/22222/33333/44444", "claim(10, 5)", 1);
     }
 
     private static void adviceWithoutClaims() {

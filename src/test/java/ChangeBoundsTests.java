@@ -13,6 +13,7 @@ public final class ChangeBoundsTests extends Bounds {
         theRingGoesRound();
         changesBehindUndo();
         eachChangeIsUndone();
+        eachPartComesBack();
         theTextStays();
         nothingToUndo();
         refusedCallsLeaveTheHistory();
@@ -158,6 +159,39 @@ public final class ChangeBoundsTests extends Bounds {
         over.due("undo()", 6);
         over.due("count(2)", 1);
         over.due("count(4)", 3);
+    }
+
+    /** Each part of a state differs from the state behind it, and comes back over two changes. */
+    private static void eachPartComesBack() {
+        sentence(0, "each change records the state before it");
+        Play x = Play.withText("22222/33333");
+        x.ask("deal()");
+        x.ask("claim(5, 2)");
+        x.due("callExact()", 1);
+        x.deal("44444/11166");
+        x.ask("claim(3, 4)");
+        x.due("doubt()", 0);
+        x.due("undo()", 5);
+        x.due("player(0, 0)", 5);
+        x.due("player(0, 1)", 0);
+        x.due("player(1, 2)", 1);
+        x.due("count(2)", 0);
+        x.due("count(6)", 1);
+        x.due("die(0, 0)", 4);
+        x.due("undo()", 4);
+        x.due("die(1, 4)", 6);
+        x.due("undo()", 3);
+        x.due("player(1, 2)", 1);
+        x.due("count(8)", 1);
+        x.due("undo()", 2);
+        x.due("player(1, 2)", 0);
+        x.due("count(8)", 0);
+        x.due("count(4)", 5);
+        x.due("die(0, 0)", 2);
+        x.due("die(1, 4)", 3);
+        x.due("counting(-1, 2)", 5);
+        x.due("undo()", 1);
+        x.due("die(1, 4)", 3);
     }
 
     private static void dueUndoOf(Play x, String... changes) {

@@ -97,6 +97,16 @@ public final class MatrixBoundsTests extends Bounds {
         // both rows would have the shares 3/2 and -1/2
         dueSolution("2 1/3 0", "1 0", "0 1");
         dueSolution("1 2 3/0 5 1/2 2 2", "0 0 1", "1 0 0");
+        // what comes earlier fails by a negative share alone: the columns 0 and 2 by -1/4 and 5/4
+        dueSolution("-3 0-2/2-3-1", "1/2 1/2", "0 1/4 3/4");
+        // the rows 0 and 1 by 5/4 and -1/4
+        dueSolution("3 2/3-2/-1 3", "4/5 0 1/5", "1/5 4/5");
+        // the rows 0 and 1 by -1 and 2
+        dueSolution("3-1/2 0/-1 3", "1/2 0 1/2", "1/2 1/2");
+        // the columns 0, 1 and 3 by 3/2, 1 and -3/2
+        dueSolution("2-1 1 1/1-1 1 0/-3 3 2 0/0 2 0 1", "10/21 0 2/21 3/7", "1/3 1/3 1/3 0");
+        // the rows 2 and 3 by 6 and -5
+        dueSolution("0-2 3 0/2 3-2 0/-1 3-2 2/-3 3-3 1", "14/29 9/29 6/29 0", "10/29 0 4/29 15/29");
     }
 
     private static void eachHasTheSumOne() {
