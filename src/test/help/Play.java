@@ -201,7 +201,7 @@ final class Play {
 
     long ask(String call) {
         calls++;
-        if (calls > MOST_CALLS) {
+        if (calls == MOST_CALLS + 1) {
             Bounds.tell("the test makes more calls than are promised: " + call);
         }
         String inside = call.substring(call.indexOf('(') + 1, call.length() - 1);

@@ -104,7 +104,7 @@ public final class GameBoundsTests extends Bounds {
     }
 
     private static void asManyFacesAsDice() {
-        sentence(0, "each player who is not out has as many faces under the cup as dice");
+        sentence(0, "Dice are dealt: each player who is not out has as many faces under the cup as dice.");
         Play x = Play.dealt(true, "6/15/621/3336/44441");
         x.due("die(0, 0)", 6);
         x.due("die(1, 1)", 5);
@@ -241,7 +241,8 @@ public final class GameBoundsTests extends Bounds {
     }
 
     private static void turnsGoRound() {
-        sentence(0, "the players who are not out take turns by ascending numbers, behind the last one the first one");
+        sentence(0, "In a round, the players who are not out take turns by ascending numbers, "
+                + "behind the last one the first one.");
         dueTurns("22222/33333", 0, 1);
         dueTurns("22222/33333/22222/33333/22222", 0, 1, 2, 3, 4);
         dueTurns("/22/33", 1, 2);
@@ -599,7 +600,7 @@ public final class GameBoundsTests extends Bounds {
         // a seed that becomes 0 at once, and one that becomes 65535
         dueRolled(64585, "16341/46222/43425/53515/12422");
         dueRolled(27034, "31536/34152/21332/13644/23236");
-        sentence(8, "for each die of player 0, then of player 1, and so on");
+        sentence(8, "Deals dice by a number: for each die of player 0, then of player 1, and so on");
         Play y = Play.withDice(true, 1, 0, 2, 0, 3);
         y.due("roll(0)", 6);
         y.due("die(0, 0)", 6);
