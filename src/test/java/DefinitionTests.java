@@ -294,7 +294,7 @@ public final class DefinitionTests extends Bounds {
     private static void advicesCompared() {
         sentence(21, "compares 1 minus the chance of the present claim, its exact chance, and the chance of the best claim.");
         int[] advices = new int[3];
-        for (String cups : new String[] {"1/6", "3/56", "333/6/333", "333/1/33", "12/34/56", "/16/5", "136/25/44", "22222/66663/1"}) {
+        for (String cups : new String[] {"1/6", "3/56", "333/6/333", "333/1/33", "3/222", "12/34/56", "/16/5", "136/25/44", "22222/66663/1"}) {
             for (boolean wild : new boolean[] {true, false}) {
                 for (int claim = 6; claim < 48; claim++) {
                     advices[dueAdvice(Play.dealt(wild, cups), claim / 6, claim % 6 + 1)]++;
@@ -347,6 +347,7 @@ public final class DefinitionTests extends Bounds {
     private static void dueSolution(String text, int rows, int columns) {
         Play x = Play.withMatrix(text);
         BigInteger[] value = fractionOf(x, "value(");
+        due("the sign of the denominator of '" + text + "'", value[1].signum(), 1);
         dueShares(x, text, value, false, rows, columns);
         dueShares(x, text, value, true, columns, rows);
     }

@@ -259,6 +259,9 @@ public final class ReadingTests extends Bounds {
         for (int players = 2; players <= 5; players++) {
             Play x = Play.dealt(true, "2/33//4");
             x.ask("claim(1, 2)");
+            x.due("callExact()", 1);
+            x.ask("roll(5)");
+            x.ask("claim(1, 2)");
             x.due("newGame(" + players + ")", 4);
             long[] numbers = {players, players, 0, 0, NONE, NONE, NONE, 1, 0, 0};
             for (int what = 0; what < numbers.length; what++) {
@@ -552,24 +555,29 @@ public final class ReadingTests extends Bounds {
 
     private static void objectsApart() {
         sentence(0, "Nothing is promised beyond the answers and state changes described above");
-        CupClaims[] all = new CupClaims[10];
-        for (int i = 0; i < all.length; i++) {
-            all[i] = new CupClaims();
-            all[i].newGame(2 + i % 4);
-            all[i].roll(i);
-            all[i].claim(i + 1, 6);
-            all[i].type('0' + i);
-            all[i].setMatrix();
+        CupClaims[] objects = new CupClaims[10];
+        long[] digests = new long[objects.length];
+        for (int i = 0; i < objects.length; i++) {
+            objects[i] = played(i);
+            digests[i] = objects[i].digest();
         }
-        for (int i = 0; i < all.length; i++) {
-            CupClaims alone = new CupClaims();
-            alone.newGame(2 + i % 4);
-            alone.roll(i);
-            alone.claim(i + 1, 6);
-            alone.type('0' + i);
-            alone.setMatrix();
-            due("digest() beside other objects", all[i].digest(), alone.digest());
-            due("entry(0, 0) beside other objects", all[i].entry(0, 0), i);
+        for (int i = 0; i < objects.length; i++) {
+            due("digest() of an object behind calls of others", objects[i].digest(), digests[i]);
+            due("undo() of an object behind calls of others", objects[i].undo(), 4);
         }
+        for (int i = 0; i < objects.length; i++) {
+            due("digest() of an object with the same calls", played(i).digest(), digests[i]);
+        }
+    }
+
+    private static CupClaims played(int number) {
+        CupClaims x = new CupClaims();
+        x.newGame(2 + number % 4);
+        x.setWild(number % 2 == 0);
+        x.roll(number);
+        x.claim(number + 1, 6);
+        x.type('0' + number);
+        x.setMatrix();
+        return x;
     }
 }

@@ -1,22 +1,17 @@
-import java.io.ByteArrayOutputStream;
 import java.io.File;
 import java.io.IOException;
-import java.io.PrintStream;
-import java.net.URL;
-import java.net.URLClassLoader;
 import java.nio.file.Files;
 import java.nio.file.Path;
 import java.util.Comparator;
 import java.util.regex.Matcher;
 import java.util.regex.Pattern;
 import java.util.stream.Stream;
-import javax.tools.ToolProvider;
 
 /** The example of README.md compiles beside the class, and prints what README.md says. */
 public final class ReadmeTests extends Bounds {
     private static final Pattern EXAMPLE = Pattern.compile("```java\n(.*?)```.*?```\n(.*?)```", Pattern.DOTALL);
 
-    public static void main(String[] args) throws Exception {
+    public static void main(String[] args) throws IOException, InterruptedException {
         sentence(0, "The class keeps the game, tells chances as exact fractions, advises, "
                 + "and solves small games that are given as matrices.");
         Matcher example = EXAMPLE.matcher(Files.readString(Path.of("README.md")));
@@ -32,30 +27,23 @@ public final class ReadmeTests extends Bounds {
         end();
     }
 
-    private static String printedBy(String program) throws Exception {
+    private static String printedBy(String program) throws IOException, InterruptedException {
         Path folder = Files.createTempDirectory("readme");
         try {
-            Path source = Files.writeString(folder.resolve("Example.java"), program);
+            String source = Files.writeString(folder.resolve("Example.java"), program).toString();
             String classes = System.getProperty("java.class.path");
-            int failed = ToolProvider.getSystemJavaCompiler().run(null, null, null,
-                    "-cp", classes, "-d", folder.toString(), source.toString());
-            return failed == 0 ? printedByMain(folder, classes) : "nothing: it does not compile\n";
+            printedByRun("javac", "-cp", classes, "-d", folder.toString(), source);
+            return printedByRun("java", "-cp", classes + File.pathSeparator + folder, "Example");
         } finally {
             remove(folder);
         }
     }
 
-    private static String printedByMain(Path folder, String classes) throws Exception {
-        PrintStream screen = System.out;
-        ByteArrayOutputStream printed = new ByteArrayOutputStream();
-        URL[] places = {folder.toUri().toURL(), new File(classes).toURI().toURL()};
-        try (URLClassLoader loader = new URLClassLoader(places)) {
-            System.setOut(new PrintStream(printed, true));
-            loader.loadClass("Example").getMethod("main", String[].class).invoke(null, (Object) new String[0]);
-        } finally {
-            System.setOut(screen);
-        }
-        return printed.toString().replace("\r", "");
+    private static String printedByRun(String... command) throws IOException, InterruptedException {
+        Process process = new ProcessBuilder(command).redirectError(ProcessBuilder.Redirect.INHERIT).start();
+        String printed = new String(process.getInputStream().readAllBytes()).replace("\r", "");
+        due("exit code of " + command[0], process.waitFor(), 0);
+        return printed;
     }
 
     private static void remove(Path folder) throws IOException {
